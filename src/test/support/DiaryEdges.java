@@ -336,6 +336,10 @@ final class DiaryEdges extends Edges {
         FavoursGoRound six = under("-;01,15;9", 0, 0, 0, 0, 0, 0);
         six.favour(0, 1, 5, NONE);
         due("for the last of six", six.weeks(1, seedOf(2, 0, 6, 5, 2, 1), 0), 2);
+        FavoursGoRound sailor = under("-;01;9", PERSON, SAILOR, PERSON);
+        sailor.favour(0, 1, 5, NONE);
+        due("for himself, though he knows everybody", sailor.weeks(1, seedOf(2, 0, 3, 1, 2, 1), 0), 1);
+        due("for another one", sailor.weeks(1, seedOf(2, 0, 3, 2, 2, 1), 0), 2);
         FavoursGoRound two = under("-;01;9", 0, 0);
         two.favour(0, 1, 5, NONE);
         due("of two there is no lawful one", two.weeks(60, 1, 0), 1);
@@ -414,6 +418,16 @@ final class DiaryEdges extends Edges {
             x.week();
             due("in the fourth week, term " + term, x.weeks(3, seed, 0), term <= 2 ? 1 : 2);
         }
+        FavoursGoRound begun = under("-;01,12,20;1", 0, 0, 0);
+        begun.weeks(60, seed, 0);
+        weeks(begun, 7);
+        begun.favour(0, 1, 5, NONE);
+        int atOnce = seedOf(2, 0, 3, 2, 2, 1);
+        due("of the week that it is, not of the first one", begun.weeks(1, atOnce, 0), 2);
+        weeks(begun, 1);
+        due("in the last week", begun.weeks(1, atOnce, 0), 2);
+        weeks(begun, 1);
+        due("late", begun.weeks(1, atOnce, 0), 1);
         // done in the second week, so that the term of 2 begins there
         FavoursGoRound y = under("-;01,12,20;1", 0, 0, 0);
         y.favour(0, 1, 5, NONE);

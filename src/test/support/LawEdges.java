@@ -256,6 +256,11 @@ final class LawEdges extends Edges {
         FavoursGoRound y = full();
         y.blank();
         due("a letter comes to it", y.letter('0'), 1);
+        FavoursGoRound gone = page("-;01;1");
+        gone.blank();
+        write(gone, "-;01;");
+        due("what it had is gone", gone.law(), STATE);
+        due("what it had is gone", gone.fault(), 5);
         FavoursGoRound z = busy();
         z.blank();
         write(z, "-;0");
@@ -364,6 +369,9 @@ final class LawEdges extends Edges {
         due("blank()", x.blank(), 0);
         due("law() of nothing", x.law(), STATE);
         due("a letter", x.letter('-'), 1);
+        FavoursGoRound y = under("-;01;1");
+        write(y, "-;01;");
+        due("the term that was read is gone", y.law(), STATE);
     }
 
     private static void noLaw() {

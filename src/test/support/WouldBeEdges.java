@@ -166,7 +166,7 @@ final class WouldBeEdges extends Edges {
         FavoursGoRound x = begun("-;01,15,14,13,53,42,52;9", 6);
         due("by 4, or by 5", x.way(0, 2, 1), 4);
         due("by 5 is as short", x.way(0, 2, 0), 2);
-        due("by 5 alone", begun("-;01,12,13,14,15,52;9", 6).way(0, 2, 1), 2);
+        due("by one favour, it is he", begun("-;01,12,13,14,15,52;9", 6).way(0, 2, 1), 2);
         // the least of the fewest: by 2 it is one more
         FavoursGoRound y = begun("-;01,12,24,45,13,35;9", 6);
         due("the fewest", y.way(0, 5, 0), 2);
@@ -174,6 +174,12 @@ final class WouldBeEdges extends Edges {
         // 2 and 3 both come to 4 and go on to 5: the row by 2 is the least
         FavoursGoRound z = begun("-;01,13,12,34,24,45;9", 6);
         due("two rows to the same one ahead", z.way(0, 5, 1), 2);
+        // 1 5 2 0 1 and 1 4 3 0 1: the row by 4 is the least, though 2 is less than 3
+        FavoursGoRound both = begun("-;01,15,52,20,14,43,30;9", 6);
+        due("to who began, of three", both.way(0, 0, 0), 3);
+        due("to who began, first", both.way(0, 0, 1), 4);
+        due("to who owes it, of four", both.way(0, 1, 0), 4);
+        due("to who owes it, first", both.way(0, 1, 1), 4);
         due("he alone is both", row().way(0, 2, 1), 2);
         due("first of the longest", loop().way(0, 0, 1), 3);
     }
