@@ -52,6 +52,7 @@ public final class FaceTest {
         }
         due("constants", constants.toString(), "[FULL=-104, NONE=-1, OUTSIDE=-102, STATE=-103, UNKNOWN=-101]");
         noNameTwice(face, names);
+        limits(face);
         words();
         System.out.println(wrong == 0 ? "the face is as due" : wrong + " faults of the face");
         if (wrong != 0) {
@@ -80,6 +81,26 @@ public final class FaceTest {
         }
         for (Member member : hidden) {
             due("a public method's name: " + member, names.contains(member.getName()), false);
+        }
+    }
+
+    /** Rules 1, 5 and 11 of LANGUAGE.md, as far as they are numbers or signs of a member. */
+    private static void limits(Class<?> face) {
+        List<Class<?>> classes = new ArrayList<>(Arrays.asList(face.getDeclaredClasses()));
+        classes.add(face);
+        due("twelve classes at most", classes.size() <= 12, true);
+        for (Class<?> one : classes) {
+            int fields = 0;
+            for (Field field : one.getDeclaredFields()) {
+                boolean isStatic = Modifier.isStatic(field.getModifiers());
+                fields += isStatic ? 0 : 1;
+                due("a static field is final: " + field, !isStatic || Modifier.isFinal(field.getModifiers()), true);
+            }
+            due("twenty fields at most: " + one, fields <= 20, true);
+            for (Method method : one.getDeclaredMethods()) {
+                due("seven parameters at most: " + method, method.getParameterCount() <= 7, true);
+            }
+            due("no class within " + one, one == face || one.getDeclaredClasses().length == 0, true);
         }
     }
 
